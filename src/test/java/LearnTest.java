@@ -1,0 +1,183 @@
+/** Promise 25: learn. */
+public final class LearnTest {
+    private static final int NONE = Tonguetell.NONE;
+
+    public static void main(String[] args) {
+        withoutTongues();
+        tooShort();
+        whatIsTaught();
+        theLongestAndTheFirst();
+        theCostDecides();
+        everyTongueIsAsked();
+        refusals();
+        Check.end();
+    }
+
+    private static void withoutTongues() {
+        for (int least : new int[] {0, 6, 7, 20}) {
+            Tonguetell x = new Tonguetell();
+            Check.spell(x, "abcdeabcdeabcdea");
+            Check.due("25: all runs without tongues", x.learn(least), 0);
+            Check.due("25: a tongue more", x.tongues(), 1);
+            Check.due("25: all 17 runs", x.total(0), 17);
+            Check.due("25: its text", x.tongueOf(0), 0);
+            Check.due("25: the text stays spelled", x.runs(), 17);
+            Check.due("25: withdrawn", x.withdraw(0), 17);
+            Check.due("25: the tongue stays", x.tongues(), 1);
+            Check.due("25: without runs", x.total(0), 0);
+        }
+    }
+
+    private static void tooShort() {
+        Tonguetell x = new Tonguetell();
+        Check.due("25: an empty text", x.learn(0), NONE);
+        Check.spell(x, "a");
+        Check.due("25: two runs", x.learn(0), NONE);
+        Check.due("25: no tongue", x.tongues(), 0);
+        Check.holds("25: no text", !Check.isTaught(x, 0));
+        Check.due("25: still spelled", x.runs(), 2);
+        x.spell('b');
+        Check.due("25: three runs", x.learn(0), 0);
+        Check.due("25: three runs in it", x.total(0), 3);
+
+        Tonguetell none = new Tonguetell();
+        Check.spell(none, "abc");
+        none.addTongue();
+        none.learn(7);
+        Tonguetell same = new Tonguetell();
+        Check.spell(same, "abc");
+        same.addTongue();
+        Check.sameState("25: learn of no stretch", none, same);
+    }
+
+    private static void whatIsTaught() {
+        Tonguetell x = new Tonguetell();
+        x.addTongue();
+        Check.teach(x, 0, "aa");
+        Check.teach(x, 0, "aa");
+        // 1, 7, 6 twice each, 42 in all: 5 each, all others 6
+        Check.spell(x, "aabcaa");
+        // 1 7 8 15 19 7 6
+        Check.due("25: a stretch inside", x.learn(6), 1);
+        Check.due("25: its runs", x.total(1), 3);
+        Check.due("25: run 8", x.count(1, 8), 1);
+        Check.due("25: run 15", x.count(1, 15), 1);
+        Check.due("25: run 19", x.count(1, 19), 1);
+        Check.due("25: run 7", x.count(1, 7), 0);
+        Check.due("25: the number of the text", x.tongueOf(2), 1);
+        Check.due("25: the other tongue", x.total(0), 6);
+        Check.due("25: the next text", x.teach(0), 3);
+        Check.due("25: withdrawn", x.withdraw(2), 3);
+        Check.due("25: without runs", x.total(1), 0);
+    }
+
+    private static void theLongestAndTheFirst() {
+        Tonguetell x = new Tonguetell();
+        x.addTongue();
+        Check.teach(x, 0, "aa");
+        Check.teach(x, 0, "aa");
+        Check.spell(x, "bcaadeaaccd");
+        // 2 15 19 | 7 | 10 29 31 | 7 | 9 21 22 24
+        Check.due("25: the longest at the end", x.learn(6), 1);
+        Check.due("25: four runs", x.total(1), 4);
+        Check.due("25: the last one", x.count(1, 24), 1);
+        Check.due("25: not the first one", x.count(1, 2), 0);
+
+        Tonguetell y = new Tonguetell();
+        y.addTongue();
+        Check.teach(y, 0, "aa");
+        Check.teach(y, 0, "aa");
+        Check.spell(y, "bcaadeaacc");
+        // 2 15 19 | 7 | 10 29 31 | 7 | 9 21 18
+        Check.due("25: the first of three", y.learn(6), 1);
+        Check.due("25: three runs", y.total(1), 3);
+        Check.due("25: of the first", y.count(1, 2), 1);
+        Check.due("25: of the first", y.count(1, 19), 1);
+
+        Tonguetell z = new Tonguetell();
+        z.addTongue();
+        Check.teach(z, 0, "aa");
+        Check.teach(z, 0, "aa");
+        Check.spell(z, "aabaabcb");
+        // 1 | 7 | 8 13 | 7 | 8 15 20 12
+        Check.due("25: a shorter one ahead", z.learn(6), 1);
+        Check.due("25: four runs", z.total(1), 4);
+        Check.due("25: of the longer", z.count(1, 12), 1);
+        Check.due("25: not of the shorter", z.count(1, 13), 0);
+
+        Tonguetell two = new Tonguetell();
+        two.addTongue();
+        Check.teach(two, 0, "aa");
+        Check.teach(two, 0, "aa");
+        Check.spell(two, "baabaab");
+        // 2 13 | 7 | 8 13 | 7 | 8 12
+        Check.due("25: stretches of two", two.learn(6), NONE);
+        Check.due("25: no tongue", two.tongues(), 1);
+    }
+
+    private static void theCostDecides() {
+        Tonguetell x = new Tonguetell();
+        x.addTongue();
+        Check.spell(x, "ab");
+        Check.due("25: 6 is not at least 7", x.learn(7), NONE);
+        Check.due("25: 6 is not at least 20", x.learn(20), NONE);
+        Check.due("25: 6 is at least 6", x.learn(6), 1);
+        Check.due("25: 5 in the new tongue", x.learn(6), NONE);
+        Check.due("25: 5 is at least 5", x.learn(5), 2);
+        Check.due("25: all is at least 0", x.learn(0), 3);
+    }
+
+    private static void everyTongueIsAsked() {
+        Tonguetell x = new Tonguetell();
+        Check.addTongues(x, 3);
+        Check.teach(x, 0, "abc");
+        Check.teach(x, 2, "cde");
+        Check.spell(x, "abcde");
+        // 1 8 15 in the first, 22 29 30 in the third
+        Check.due("25: each fits one tongue", x.learn(6), NONE);
+        x.withdraw(1);
+        Check.due("25: the third has none any more", x.learn(6), 3);
+        Check.due("25: three runs", x.total(3), 3);
+        Check.due("25: the last one", x.count(3, 30), 1);
+        Check.due("25: not run 15", x.count(3, 15), 0);
+    }
+
+    private static void thirtyTexts(Tonguetell x) {
+        x.addTongue();
+        Check.spell(x, "abc");
+        for (int text = 0; text < 30; text++) {
+            x.teach(0);
+        }
+        Check.spell(x, "ddd");
+    }
+
+    private static void refusals() {
+        for (int far : new int[] {Integer.MIN_VALUE, -1, 21, Integer.MAX_VALUE}) {
+            Check.refused("25: learn " + far, IllegalArgumentException.class, x -> Check.spell(x, "abc"), x -> x.learn(far));
+            Check.refused("25: learn " + far + " with 5 tongues", IllegalArgumentException.class,
+                x -> Check.addTongues(x, 5), x -> x.learn(far));
+            Check.refused("25: learn " + far + " with 30 texts", IllegalArgumentException.class,
+                LearnTest::thirtyTexts, x -> x.learn(far));
+        }
+        for (int least : new int[] {0, 6, 20}) {
+            Check.refused("25: learn with 5 tongues", IllegalStateException.class, x -> {
+                Check.addTongues(x, 5);
+                Check.spell(x, "abc");
+            }, x -> x.learn(least));
+            Check.refused("25: learn nothing with 5 tongues", IllegalStateException.class,
+                x -> Check.addTongues(x, 5), x -> x.learn(least));
+            Check.refused("25: learn with 30 texts", IllegalStateException.class,
+                LearnTest::thirtyTexts, x -> x.learn(least));
+            Check.refused("25: learn nothing with 30 texts", IllegalStateException.class, x -> {
+                thirtyTexts(x);
+                x.clearSpelled();
+            }, x -> x.learn(least));
+        }
+        Tonguetell x = new Tonguetell();
+        thirtyTexts(x);
+        x.withdraw(3);
+        Check.due("25: learn as text 30", x.learn(6), 1);
+        Check.due("25: text 30", x.tongueOf(30), 1);
+        Check.thrown("25: full again", IllegalStateException.class, x, y -> y.learn(6));
+    }
+}

@@ -453,7 +453,6 @@ public final class Tonguetell {
         final int[] tongueIn = new int[MOST_TEXTS];
         final int[] lengthIn = new int[MOST_TEXTS];
         final int[][] runsIn = new int[MOST_TEXTS][MOST_RUNS];
-        private int taken = 0;
         private int nextNumber = 0;
 
         Shelf() {
@@ -463,10 +462,11 @@ public final class Tonguetell {
         }
 
         boolean isFull() {
-            return taken >= MOST_TEXTS;
+            return firstSlotWith(FREE) == NO_SLOT;
         }
 
         int slotOf(int text) {
+            // A free slot's number must not be found as a text's.
             return text < 0 ? NO_SLOT : firstSlotWith(text);
         }
 
@@ -477,13 +477,11 @@ public final class Tonguetell {
             tongueIn[slot] = tongue;
             lengthIn[slot] = length;
             nextNumber++;
-            taken++;
             return slot;
         }
 
         void free(int slot) {
             numberIn[slot] = FREE;
-            taken--;
         }
 
         private int firstSlotWith(int number) {
@@ -498,6 +496,8 @@ public final class Tonguetell {
 
     /** Cuts a text whose runs' costs in all tongues were laid into costs after begin. */
     private static final class Cutter {
+        private static final int ABOVE_ALL_COSTS = 1000000;
+
         final int[][] costs = new int[MOST_RUNS][MOST_TONGUES];
         final int[] told = new int[MOST_RUNS];
         /** The least cost of all runs from a place on, if the run there has a tongue. */
@@ -581,7 +581,7 @@ public final class Tonguetell {
             if (place >= cutter.runCount || place > MOST_LETTERS_TO_TRY) {
                 return 0;
             }
-            int least = Integer.MAX_VALUE;
+            int least = ABOVE_ALL_COSTS;
             for (int tongue = 0; tongue < cutter.choices; tongue++) {
                 int own = cutter.priceOfChange(before, tongue) + cutter.costs[place][tongue];
                 least = Math.min(least, own + leastByTrying(cutter, place + 1, tongue));

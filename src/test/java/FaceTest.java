@@ -142,6 +142,8 @@ public final class FaceTest {
         }
         Check.holds("rule 5: no static block", !Pattern.compile("\\bstatic\\s*\\{").matcher(bare).find());
         Check.holds("rule 4: no other import", bare.replace("import java.util.NoSuchElementException;", "").indexOf("import") < 0);
-        Check.holds("rule 4: no name ending in Exact", !Pattern.compile("Exact\\s*\\(").matcher(bare).find());
+        Check.holds("rule 4: of the library's static names only these",
+            !Pattern.compile("\\b(Integer|Long|Character|String|System|Arrays|Objects|Math)\\s*\\.").matcher(
+                bare.replaceAll("\\bMath\\.(abs|min|max)\\(", "")).find());
     }
 }

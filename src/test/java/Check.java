@@ -10,26 +10,33 @@ final class Check {
         void on(Tonguetell x);
     }
 
+    private static final int TEXTS_LOOKED_AT = 40;
+
+    private static String sentence = "";
     private static int seen = 0;
     private static int wrong = 0;
 
     private Check() {
     }
 
+    /** Tells which sentence of the document the answers that are looked at next belong to. */
+    static void sentence(String words) {
+        sentence = words + " | ";
+    }
+
     static void due(String what, long got, long want) {
-        seen++;
-        if (got != want) {
-            wrong++;
-            System.out.println(what + " answered " + got + ", due is " + want);
-        }
+        same(what, Long.toString(got), Long.toString(want));
     }
 
     static void holds(String what, boolean held) {
-        seen++;
-        if (!held) {
-            wrong++;
-            System.out.println(what + " does not hold");
-        }
+        look(held, what + " does not hold");
+    }
+
+    /** The call, on a new object on which the script has run, answers this. */
+    static void answered(String what, long want, Script before, Call call) {
+        Tonguetell x = new Tonguetell();
+        before.on(x);
+        same(what, answerOf(x, call), Long.toString(want));
     }
 
     /** The call throws exactly this, and an object on which it threw answers as one on which it never ran. */
@@ -43,23 +50,14 @@ final class Check {
     }
 
     static void thrown(String what, Class<?> want, Tonguetell x, Call call) {
-        String got = answerOf(x, call);
-        seen++;
-        if (!got.equals(want.getName())) {
-            wrong++;
-            System.out.println(what + " answered " + got + ", due is " + want.getName());
-        }
+        same(what, answerOf(x, call), want.getName());
     }
 
-    /** Both objects are used up by this: it asks some 250 calls of each and teaches at the end. */
+    /** Both objects are used up by this: it asks some 330 calls of each, withdraws all and teaches at the end. */
     static void sameState(String what, Tonguetell got, Tonguetell want) {
         String gotState = stateOf(got);
         String wantState = stateOf(want);
-        seen++;
-        if (!gotState.equals(wantState)) {
-            wrong++;
-            System.out.println(what + " left\n  " + gotState + "\ndue is\n  " + wantState);
-        }
+        look(gotState.equals(wantState), what + " left\n  " + gotState + "\ndue is\n  " + wantState);
     }
 
     static String answerOf(Tonguetell x, Call call) {
@@ -104,12 +102,28 @@ final class Check {
         }
     }
 
+    private static void same(String what, String got, String want) {
+        look(got.equals(want), what + " answered " + got + ", due is " + want);
+    }
+
+    private static void look(boolean asDue, String told) {
+        seen++;
+        if (!asDue) {
+            wrong++;
+            System.out.println(sentence + told);
+        }
+    }
+
     private static String stateOf(Tonguetell x) {
         StringBuilder state = new StringBuilder("spelled");
-        for (int place = 0; place < x.runs(); place++) {
+        int runs = x.runs();
+        for (int place = 0; place < runs; place++) {
             state.append(' ').append(x.runAt(place));
         }
-        for (int tongue = 0; tongue < x.tongues(); tongue++) {
+        state.append(", told ").append(x.tell()).append(' ').append(x.tellByRanks());
+        state.append(", cut ").append(answerOf(x, y -> y.cutCost())).append(' ').append(answerOf(x, y -> y.stretches()));
+        int tongues = x.tongues();
+        for (int tongue = 0; tongue < tongues; tongue++) {
             state.append(", tongue ").append(tongue).append(" of ").append(x.total(tongue));
             for (int run = 0; run < 36; run++) {
                 int count = x.count(tongue, run);
@@ -118,17 +132,18 @@ final class Check {
                 }
             }
         }
-        state.append(", texts");
-        for (int text = -1; text < 40; text++) {
+        state.append(", margin ").append(x.setMargin(0)).append(", price ").append(x.setPrice(0));
+        // Last, as it takes what is taught away: only with room again do the next numbers show.
+        state.append(", letters ").append(x.clearSpelled()).append(", texts");
+        for (int text = -1; text < TEXTS_LOOKED_AT; text++) {
             if (isTaught(x, text)) {
-                state.append(' ').append(text).append("in").append(x.tongueOf(text));
+                state.append(' ').append(text).append("in").append(x.tongueOf(text)).append('x').append(x.withdraw(text));
             }
         }
-        state.append(", margin ").append(x.setMargin(0)).append(", price ").append(x.setPrice(0));
-        x.clearSpelled();
         x.spell('a');
         state.append(", next tongue ").append(answerOf(x, y -> y.addTongue()));
         state.append(", next text ").append(answerOf(x, y -> y.teach(0)));
+        state.append(", total ").append(x.total(0));
         return state.toString();
     }
 }

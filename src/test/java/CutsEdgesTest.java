@@ -26,6 +26,11 @@ public final class CutsEdgesTest {
         Check.spell(x, "aaabbb");
     }
 
+    private static void tonguesAndText(Tonguetell x, int tongues, String text) {
+        Check.addTongues(x, tongues);
+        Check.spell(x, text);
+    }
+
     private static void priceAtFirst() {
         Check.sentence("20: Sets the price. Returns the price before. (a price, 4 at first)");
         Check.answered("at first", 4, x -> { }, x -> x.setPrice(4));
@@ -60,14 +65,8 @@ public final class CutsEdgesTest {
             x.cutCost();
             x.clearSpelled();
         }, x -> x.cutCost());
-        Check.answered("one letter", 12, x -> {
-            x.addTongue();
-            x.spell('a');
-        }, x -> x.cutCost());
-        Check.answered("sixteen letters", 17 * 6, x -> {
-            x.addTongue();
-            Check.spell(x, SIXTEEN);
-        }, x -> x.cutCost());
+        Check.answered("one letter", 12, x -> tonguesAndText(x, 1, "a"), x -> x.cutCost());
+        Check.answered("sixteen letters", 17 * 6, x -> tonguesAndText(x, 1, SIXTEEN), x -> x.cutCost());
     }
 
     /** With one tongue, a text of three letters gets this answer. */
@@ -76,10 +75,7 @@ public final class CutsEdgesTest {
         for (String text : new String[] {"", "a", "abc", "abcde", "abcdea", SIXTEEN}) {
             Check.refused("'" + text + "'", IllegalStateException.class, x -> Check.spell(x, text), call);
         }
-        Check.answered("one tongue", withOne, x -> {
-            x.addTongue();
-            Check.spell(x, "abc");
-        }, call);
+        Check.answered("one tongue", withOne, x -> tonguesAndText(x, 1, "abc"), call);
     }
 
     private static void returnsTheSame() {
@@ -89,8 +85,11 @@ public final class CutsEdgesTest {
                 Tonguetell x = new Tonguetell();
                 aaaaAndBbbb(x);
                 Check.addTongues(x, 3);
-                Check.spell(x, text);
                 x.setPrice(price);
+                // A longer text was cut before, of which nothing may be left in what is tried.
+                Check.spell(x, SIXTEEN);
+                x.cutCost();
+                Check.spell(x, text);
                 Check.due("'" + text + "' at " + price, x.cutCostByTrying(), x.cutCost());
             }
         }
@@ -110,13 +109,9 @@ public final class CutsEdgesTest {
         Check.refused("six gaps", IllegalStateException.class, x -> tonguesAndText(x, 2, "      "), x -> x.cutCostByTrying());
     }
 
-    private static void tonguesAndText(Tonguetell x, int tongues, String text) {
-        Check.addTongues(x, tongues);
-        Check.spell(x, text);
-    }
-
     private static void noSuchRun() {
         Check.sentence("23: Throws IndexOutOfBoundsException if there is no such run");
+        Check.refused("no such run, and no tongues", IllegalStateException.class, x -> Check.spell(x, "a"), x -> x.cutTongue(-1));
         Check.answered("the first", 0, CutsEdgesTest::aaaaAndBbbb, x -> x.cutTongue(0));
         Check.answered("the last", 1, CutsEdgesTest::aaaaAndBbbb, x -> x.cutTongue(6));
         Check.answered("the last of one letter", 0, x -> tonguesAndText(x, 5, "a"), x -> x.cutTongue(1));

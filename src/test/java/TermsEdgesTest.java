@@ -397,6 +397,12 @@ public final class TermsEdgesTest {
             Check.spell(x, SIXTEEN_GAPS);
         }, x -> x.distance(0));
         Check.answered("no run", 0, x -> x.addTongue(), x -> x.distance(0));
+        Check.answered("not the runs of the text before", 3 * 36, x -> {
+            x.addTongue();
+            Check.spell(x, SIXTEEN_GAPS);
+            x.distance(0);
+            Check.spell(x, "ee");
+        }, x -> x.distance(0));
     }
 
     private static void withoutRankInTheTongue() {

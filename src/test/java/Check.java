@@ -86,6 +86,19 @@ final class Check {
         }
     }
 
+    static void tonguesAndText(Tonguetell x, int tongues, String text) {
+        addTongues(x, tongues);
+        spell(x, text);
+    }
+
+    /** So many texts, taught to two tongues by turns; the last one stays spelled. */
+    static void texts(Tonguetell x, int number) {
+        tonguesAndText(x, 2, "abc");
+        for (int text = 0; text < number; text++) {
+            x.teach(text % 2);
+        }
+    }
+
     static boolean isTaught(Tonguetell x, int text) {
         try {
             x.tongueOf(text);

@@ -26,11 +26,6 @@ public final class CutsEdgesTest {
         Check.spell(x, "aaabbb");
     }
 
-    private static void tonguesAndText(Tonguetell x, int tongues, String text) {
-        Check.addTongues(x, tongues);
-        Check.spell(x, text);
-    }
-
     private static void priceAtFirst() {
         Check.sentence("20: Sets the price. Returns the price before. (a price, 4 at first)");
         Check.answered("at first", 4, x -> { }, x -> x.setPrice(4));
@@ -65,8 +60,8 @@ public final class CutsEdgesTest {
             x.cutCost();
             x.clearSpelled();
         }, x -> x.cutCost());
-        Check.answered("one letter", 12, x -> tonguesAndText(x, 1, "a"), x -> x.cutCost());
-        Check.answered("sixteen letters", 17 * 6, x -> tonguesAndText(x, 1, SIXTEEN), x -> x.cutCost());
+        Check.answered("one letter", 12, x -> Check.tonguesAndText(x, 1, "a"), x -> x.cutCost());
+        Check.answered("sixteen letters", 17 * 6, x -> Check.tonguesAndText(x, 1, SIXTEEN), x -> x.cutCost());
     }
 
     /** With one tongue, a text of three letters gets this answer. */
@@ -75,7 +70,7 @@ public final class CutsEdgesTest {
         for (String text : new String[] {"", "a", "abc", "abcde", "abcdea", SIXTEEN}) {
             Check.refused("'" + text + "'", IllegalStateException.class, x -> Check.spell(x, text), call);
         }
-        Check.answered("one tongue", withOne, x -> tonguesAndText(x, 1, "abc"), call);
+        Check.answered("one tongue", withOne, x -> Check.tonguesAndText(x, 1, "abc"), call);
     }
 
     private static void returnsTheSame() {
@@ -99,23 +94,25 @@ public final class CutsEdgesTest {
         Check.sentence("22: Throws IllegalStateException if [...] the spelled text has more than 5 letters");
         for (int tongues = 1; tongues <= 5; tongues += 4) {
             int there = tongues;
-            Check.answered("five letters", 36, x -> tonguesAndText(x, there, "abcde"), x -> x.cutCostByTrying());
+            Check.answered("five letters", 36, x -> Check.tonguesAndText(x, there, "abcde"), x -> x.cutCostByTrying());
             Check.refused("six letters", IllegalStateException.class,
-                x -> tonguesAndText(x, there, "abcdea"), x -> x.cutCostByTrying());
+                x -> Check.tonguesAndText(x, there, "abcdea"), x -> x.cutCostByTrying());
             Check.refused("sixteen letters", IllegalStateException.class,
-                x -> tonguesAndText(x, there, SIXTEEN), x -> x.cutCostByTrying());
+                x -> Check.tonguesAndText(x, there, SIXTEEN), x -> x.cutCostByTrying());
         }
-        Check.answered("five gaps", 36, x -> tonguesAndText(x, 2, "     "), x -> x.cutCostByTrying());
-        Check.refused("six gaps", IllegalStateException.class, x -> tonguesAndText(x, 2, "      "), x -> x.cutCostByTrying());
+        Check.answered("five gaps", 36, x -> Check.tonguesAndText(x, 2, "     "), x -> x.cutCostByTrying());
+        Check.refused("six gaps", IllegalStateException.class,
+            x -> Check.tonguesAndText(x, 2, "      "), x -> x.cutCostByTrying());
     }
 
     private static void noSuchRun() {
         Check.sentence("23: Throws IndexOutOfBoundsException if there is no such run");
-        Check.refused("no such run, and no tongues", IllegalStateException.class, x -> Check.spell(x, "a"), x -> x.cutTongue(-1));
+        Check.refused("no such run, and no tongues", IllegalStateException.class,
+            x -> Check.spell(x, "a"), x -> x.cutTongue(-1));
         Check.answered("the first", 0, CutsEdgesTest::aaaaAndBbbb, x -> x.cutTongue(0));
         Check.answered("the last", 1, CutsEdgesTest::aaaaAndBbbb, x -> x.cutTongue(6));
-        Check.answered("the last of one letter", 0, x -> tonguesAndText(x, 5, "a"), x -> x.cutTongue(1));
-        Check.answered("the last of sixteen letters", 0, x -> tonguesAndText(x, 5, SIXTEEN), x -> x.cutTongue(16));
+        Check.answered("the last of one letter", 0, x -> Check.tonguesAndText(x, 5, "a"), x -> x.cutTongue(1));
+        Check.answered("the last of sixteen letters", 0, x -> Check.tonguesAndText(x, 5, SIXTEEN), x -> x.cutTongue(16));
         for (int far : new int[] {Integer.MIN_VALUE, -2, -1, 17, 18, 1000, Integer.MAX_VALUE}) {
             placeRefused("", far);
             placeRefused("a", far);
@@ -133,13 +130,13 @@ public final class CutsEdgesTest {
 
     private static void placeRefused(String text, int place) {
         Check.refused("run " + place + " of '" + text + "'", IndexOutOfBoundsException.class,
-            x -> tonguesAndText(x, 2, text), x -> x.cutTongue(place));
+            x -> Check.tonguesAndText(x, 2, text), x -> x.cutTongue(place));
     }
 
     private static void emptyTextHasNoStretches() {
         Check.sentence("24: 0 for an empty text");
         Check.answered("no letter", 0, x -> x.addTongue(), x -> x.stretches());
-        Check.answered("one letter", 1, x -> tonguesAndText(x, 1, "a"), x -> x.stretches());
+        Check.answered("one letter", 1, x -> Check.tonguesAndText(x, 1, "a"), x -> x.stretches());
         Check.answered("no letter behind two stretches", 0, x -> {
             aaaaAndBbbb(x);
             x.stretches();
@@ -158,7 +155,7 @@ public final class CutsEdgesTest {
 
     private static void stretchesSideBySide() {
         Check.sentence("24: runs side by side with the same tongue are one");
-        Check.answered("no change", 1, x -> tonguesAndText(x, 5, SIXTEEN), x -> x.stretches());
+        Check.answered("no change", 1, x -> Check.tonguesAndText(x, 5, SIXTEEN), x -> x.stretches());
         Check.answered("one change", 2, CutsEdgesTest::aaaaAndBbbb, x -> x.stretches());
         Check.answered("17 stretches, which is the most", 17, x -> everySecondRun(x, 0), x -> x.stretches());
         Check.answered("their cost", 17 * 5, x -> everySecondRun(x, 0), x -> x.cutCost());

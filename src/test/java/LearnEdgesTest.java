@@ -21,11 +21,6 @@ public final class LearnEdgesTest {
         Check.end();
     }
 
-    private static void tonguesAndText(Tonguetell x, int tongues, String text) {
-        Check.addTongues(x, tongues);
-        Check.spell(x, text);
-    }
-
     /** Runs 1, 7 and 6 cost 4 in tongue 0, all others 6. */
     private static void taughtAaTwice(Tonguetell x, String text) {
         x.addTongue();
@@ -36,20 +31,20 @@ public final class LearnEdgesTest {
 
     private static void leastOutOfRange() {
         Check.sentence("25: 0 to 20; throws IllegalArgumentException if least is out of range");
-        Check.answered("0 is taken", 1, x -> tonguesAndText(x, 1, "abc"), x -> x.learn(0));
-        Check.answered("20 is taken", 0, x -> tonguesAndText(x, 0, "abc"), x -> x.learn(20));
-        Check.answered("20 is taken, no run costs so much", NONE, x -> tonguesAndText(x, 1, "abc"), x -> x.learn(20));
+        Check.answered("0 is taken", 1, x -> Check.tonguesAndText(x, 1, "abc"), x -> x.learn(0));
+        Check.answered("20 is taken", 0, x -> Check.tonguesAndText(x, 0, "abc"), x -> x.learn(20));
+        Check.answered("20 is taken, no run costs so much", NONE, x -> Check.tonguesAndText(x, 1, "abc"), x -> x.learn(20));
         for (int least : OUT_OF_RANGE) {
             Check.refused("least " + least, IllegalArgumentException.class,
-                x -> tonguesAndText(x, 1, "abc"), x -> x.learn(least));
+                x -> Check.tonguesAndText(x, 1, "abc"), x -> x.learn(least));
             Check.refused("least " + least + " without tongues", IllegalArgumentException.class,
                 x -> Check.spell(x, "abc"), x -> x.learn(least));
             Check.refused("least " + least + " of an empty text", IllegalArgumentException.class,
                 x -> x.addTongue(), x -> x.learn(least));
             Check.refused("least " + least + " with 5 tongues", IllegalArgumentException.class,
-                x -> tonguesAndText(x, 5, "abc"), x -> x.learn(least));
+                x -> Check.tonguesAndText(x, 5, "abc"), x -> x.learn(least));
             Check.refused("least " + least + " with 30 texts", IllegalArgumentException.class,
-                x -> texts(x, 30), x -> x.learn(least));
+                x -> Check.texts(x, 30), x -> x.learn(least));
         }
     }
 
@@ -61,7 +56,7 @@ public final class LearnEdgesTest {
                 x.learn(least);
             }, x -> x.total(0));
         }
-        Check.answered("one tongue", NONE, x -> tonguesAndText(x, 1, "abcdeabcdeabcdea"), x -> x.learn(7));
+        Check.answered("one tongue", NONE, x -> Check.tonguesAndText(x, 1, "abcdeabcdeabcdea"), x -> x.learn(7));
     }
 
     private static void atLeastThreeRuns() {
@@ -87,8 +82,8 @@ public final class LearnEdgesTest {
 
     private static void atLeastACost() {
         Check.sentence("25: each of which has at least a cost in each tongue there is");
-        Check.answered("6 is at least 6", 1, x -> tonguesAndText(x, 1, "abc"), x -> x.learn(6));
-        Check.answered("6 is not at least 7", NONE, x -> tonguesAndText(x, 1, "abc"), x -> x.learn(7));
+        Check.answered("6 is at least 6", 1, x -> Check.tonguesAndText(x, 1, "abc"), x -> x.learn(6));
+        Check.answered("6 is not at least 7", NONE, x -> Check.tonguesAndText(x, 1, "abc"), x -> x.learn(7));
         Check.answered("10 is at least 10", 1, LearnEdgesTest::manyGaps, x -> x.learn(10));
         Check.answered("10 is not at least 11", NONE, LearnEdgesTest::manyGaps, x -> x.learn(11));
         Check.answered("4 is at least 4", 1, x -> taughtAaTwice(x, "aa"), x -> x.learn(4));
@@ -179,7 +174,7 @@ public final class LearnEdgesTest {
 
     private static void fiveTongues() {
         Check.sentence("25: Throws IllegalStateException if there are 5 tongues");
-        Check.answered("4 tongues", 4, x -> tonguesAndText(x, 4, "abc"), x -> x.learn(6));
+        Check.answered("4 tongues", 4, x -> Check.tonguesAndText(x, 4, "abc"), x -> x.learn(6));
         Check.answered("4 tongues, one learned", 4, x -> {
             Check.spell(x, "abc");
             x.learn(0);
@@ -189,43 +184,35 @@ public final class LearnEdgesTest {
             for (String text : new String[] {"", "a", "ab", "abcdeabcdeabcdea"}) {
                 // Also where no stretch would be long enough: the sentence names no stretch.
                 Check.refused("5 tongues, '" + text + "', least " + least, IllegalStateException.class,
-                    x -> tonguesAndText(x, 5, text), x -> x.learn(least));
+                    x -> Check.tonguesAndText(x, 5, text), x -> x.learn(least));
             }
         }
-        Check.answered("4 tongues, no stretch long enough", NONE, x -> tonguesAndText(x, 4, "a"), x -> x.learn(0));
-    }
-
-    private static void texts(Tonguetell x, int number) {
-        x.addTongue();
-        Check.spell(x, "abc");
-        for (int text = 0; text < number; text++) {
-            x.teach(0);
-        }
-        Check.spell(x, "ddd");
+        Check.answered("4 tongues, no stretch long enough", NONE, x -> Check.tonguesAndText(x, 4, "a"), x -> x.learn(0));
     }
 
     private static void thirtyTexts() {
         Check.sentence("25: or 30 texts are taught and not withdrawn");
-        Check.answered("29 texts", 1, x -> texts(x, 29), x -> x.learn(0));
-        Check.answered("the learned one is text 30", 1, x -> {
-            texts(x, 29);
+        Check.answered("29 texts", 2, x -> Check.texts(x, 29), x -> x.learn(0));
+        Check.answered("the learned one is text 30", 2, x -> {
+            Check.texts(x, 29);
             x.learn(0);
         }, x -> x.tongueOf(29));
         Check.refused("the learned one was text 30", IllegalStateException.class, x -> {
-            texts(x, 29);
+            Check.texts(x, 29);
             x.learn(0);
         }, x -> x.learn(0));
         for (int least : IN_RANGE) {
-            Check.refused("30 texts, least " + least, IllegalStateException.class, x -> texts(x, 30), x -> x.learn(least));
+            Check.refused("30 texts, least " + least, IllegalStateException.class,
+                x -> Check.texts(x, 30), x -> x.learn(least));
             Check.refused("30 texts, an empty text, least " + least, IllegalStateException.class, x -> {
-                texts(x, 30);
+                Check.texts(x, 30);
                 x.clearSpelled();
             }, x -> x.learn(least));
         }
-        Check.answered("30 texts, one withdrawn", 1, x -> {
-            texts(x, 30);
+        Check.answered("30 texts, one withdrawn", 2, x -> {
+            Check.texts(x, 30);
             x.withdraw(29);
         }, x -> x.learn(0));
-        Check.answered("29 texts, no stretch long enough", NONE, x -> texts(x, 29), x -> x.learn(20));
+        Check.answered("29 texts, no stretch long enough", NONE, x -> Check.texts(x, 29), x -> x.learn(20));
     }
 }

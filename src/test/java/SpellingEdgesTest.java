@@ -43,7 +43,8 @@ public final class SpellingEdgesTest {
         char[] wrong = {0, 9, 10, 31, 33, '0', 'A', 'E', 96, 102, 'z', 160, 225, 256 + ' ', 256 + 'a', 256 + 'e',
             0x2003, 0xff00 + 'a', 0xff41, 0xffff};
         for (char letter : wrong) {
-            Check.refused("letter " + (int) letter, IllegalArgumentException.class, x -> x.spell('b'), x -> x.spell(letter));
+            Check.refused("letter " + (int) letter, IllegalArgumentException.class,
+                x -> x.spell('b'), x -> x.spell(letter));
             Check.refused("letter " + (int) letter + " behind 16", IllegalArgumentException.class,
                 x -> Check.spell(x, SIXTEEN), x -> x.spell(letter));
         }

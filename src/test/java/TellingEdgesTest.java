@@ -23,19 +23,16 @@ public final class TellingEdgesTest {
         Check.end();
     }
 
-    private static void tonguesAndText(Tonguetell x, int tongues, String text) {
-        Check.addTongues(x, tongues);
-        Check.spell(x, text);
-    }
-
     /** Every tongue without runs gives the same answer of a text of two letters. */
     private static void noSuchTongue(String promise, OfTongue call, int ofEmptyTongue) {
         Check.sentence(promise + ": Throws IndexOutOfBoundsException if there is no such tongue");
         tongueRefused(call, 0, 0);
         for (int tongues : new int[] {1, 5}) {
             int last = tongues - 1;
-            Check.answered("the first of " + tongues, ofEmptyTongue, x -> tonguesAndText(x, tongues, "ab"), x -> call.ask(x, 0));
-            Check.answered("the last of " + tongues, ofEmptyTongue, x -> tonguesAndText(x, tongues, "ab"), x -> call.ask(x, last));
+            Check.answered("the first of " + tongues, ofEmptyTongue,
+                x -> Check.tonguesAndText(x, tongues, "ab"), x -> call.ask(x, 0));
+            Check.answered("the last of " + tongues, ofEmptyTongue,
+                x -> Check.tonguesAndText(x, tongues, "ab"), x -> call.ask(x, last));
             Check.answered("the last, an empty text", 0, x -> Check.addTongues(x, tongues), x -> call.ask(x, last));
             tongueRefused(call, tongues, tongues);
             for (int far : FAR) {
@@ -46,7 +43,7 @@ public final class TellingEdgesTest {
 
     private static void tongueRefused(OfTongue call, int tongues, int tongue) {
         Check.refused(tongue + " of " + tongues, IndexOutOfBoundsException.class,
-            x -> tonguesAndText(x, tongues, "ab"), x -> call.ask(x, tongue));
+            x -> Check.tonguesAndText(x, tongues, "ab"), x -> call.ask(x, tongue));
         Check.refused(tongue + " of " + tongues + ", an empty text", IndexOutOfBoundsException.class,
             x -> Check.addTongues(x, tongues), x -> call.ask(x, tongue));
     }
@@ -79,13 +76,13 @@ public final class TellingEdgesTest {
     private static void fewerThanFourLetters() {
         Check.sentence("18: NONE if the text has fewer than 4 letters");
         for (String text : new String[] {"", "a", "ab", "abc", "   "}) {
-            Check.answered("'" + text + "'", NONE, x -> tonguesAndText(x, 1, text), x -> x.tell());
+            Check.answered("'" + text + "'", NONE, x -> Check.tonguesAndText(x, 1, text), x -> x.tell());
         }
         for (String text : new String[] {"abcd", "    ", "abcdeabcdeabcdea"}) {
-            Check.answered("'" + text + "'", 0, x -> tonguesAndText(x, 1, text), x -> x.tell());
+            Check.answered("'" + text + "'", 0, x -> Check.tonguesAndText(x, 1, text), x -> x.tell());
         }
         Check.answered("three letters, no margin", NONE, x -> {
-            tonguesAndText(x, 1, "abc");
+            Check.tonguesAndText(x, 1, "abc");
             x.setMargin(0);
         }, x -> x.tell());
     }
@@ -93,9 +90,9 @@ public final class TellingEdgesTest {
     private static void noTonguesToTell() {
         Check.sentence("18: NONE if [...] there are no tongues");
         Check.answered("none", NONE, x -> Check.spell(x, "abcd"), x -> x.tell());
-        Check.answered("one", 0, x -> tonguesAndText(x, 1, "abcd"), x -> x.tell());
+        Check.answered("one", 0, x -> Check.tonguesAndText(x, 1, "abcd"), x -> x.tell());
         Check.answered("one, and the greatest margin", 0, x -> {
-            tonguesAndText(x, 1, "abcd");
+            Check.tonguesAndText(x, 1, "abcd");
             x.setMargin(100);
         }, x -> x.tell());
     }
@@ -156,7 +153,7 @@ public final class TellingEdgesTest {
             // With a margin of 0 no cost in another tongue is less than the least one.
             int set = margin;
             Check.answered("five of 24, margin " + margin, margin == 0 ? 0 : NONE, x -> {
-                tonguesAndText(x, 5, "abc");
+                Check.tonguesAndText(x, 5, "abc");
                 x.spell(' ');
                 x.setMargin(set);
             }, x -> x.tell());
@@ -172,9 +169,9 @@ public final class TellingEdgesTest {
     private static void emptyTextByRanks() {
         Check.sentence("19: NONE if the text is empty");
         Check.answered("no letter", NONE, x -> Check.addTongues(x, 2), x -> x.tellByRanks());
-        Check.answered("one letter", 0, x -> tonguesAndText(x, 2, "a"), x -> x.tellByRanks());
+        Check.answered("one letter", 0, x -> Check.tonguesAndText(x, 2, "a"), x -> x.tellByRanks());
         Check.answered("no letter behind one", NONE, x -> {
-            tonguesAndText(x, 2, "a");
+            Check.tonguesAndText(x, 2, "a");
             x.clearSpelled();
         }, x -> x.tellByRanks());
     }
@@ -182,7 +179,7 @@ public final class TellingEdgesTest {
     private static void noTonguesByRanks() {
         Check.sentence("19: NONE if [...] there are no tongues");
         Check.answered("none", NONE, x -> Check.spell(x, "abcd"), x -> x.tellByRanks());
-        Check.answered("one", 0, x -> tonguesAndText(x, 1, "abcd"), x -> x.tellByRanks());
+        Check.answered("one", 0, x -> Check.tonguesAndText(x, 1, "abcd"), x -> x.tellByRanks());
         Check.answered("the fifth", 4, x -> {
             Check.addTongues(x, 5);
             Check.teach(x, 4, "abcd");
@@ -191,7 +188,7 @@ public final class TellingEdgesTest {
 
     private static void severalOfLeastDistance() {
         Check.sentence("19: of several the one with the lowest number");
-        Check.answered("five of them", 0, x -> tonguesAndText(x, 5, "ab"), x -> x.tellByRanks());
+        Check.answered("five of them", 0, x -> Check.tonguesAndText(x, 5, "ab"), x -> x.tellByRanks());
         Check.answered("the second and the fifth", 1, x -> {
             Check.addTongues(x, 5);
             Check.teach(x, 4, "ab");

@@ -104,7 +104,8 @@ public final class TermsEdgesTest {
     }
 
     private static void fromAToEOrASpace() {
-        Check.sentence("each from a to e or a space, which is a gap. Letters have numbers: 0 for a gap, 1 for a, and so on, 5 for e.");
+        Check.sentence("each from a to e or a space, which is a gap. Letters have numbers: 0 for a gap, 1 for"
+            + " a, and so on, 5 for e.");
         Check.answered("the number of a gap", 0, x -> x.spell(' '), x -> x.runAt(0));
         Check.answered("the number of a", 1, x -> x.spell('a'), x -> x.runAt(0));
         Check.answered("the number of e", 5, x -> x.spell('e'), x -> x.runAt(0));
@@ -226,27 +227,19 @@ public final class TermsEdgesTest {
         Check.due("taught again, the count", x.count(0, 7), 1);
     }
 
-    private static void texts(Tonguetell x, int number) {
-        Check.addTongues(x, 2);
-        Check.spell(x, "abc");
-        for (int text = 0; text < number; text++) {
-            x.teach(text % 2);
-        }
-    }
-
     private static void atMostThirtyTexts() {
         Check.sentence("At most 30 texts are taught and not withdrawn at a time.");
-        Check.answered("text 30", 29, x -> texts(x, 29), x -> x.teach(1));
-        Check.answered("text 30, learned", 2, x -> texts(x, 29), x -> x.learn(0));
-        Check.refused("text 31", IllegalStateException.class, x -> texts(x, 30), x -> x.teach(1));
-        Check.refused("text 31, learned", IllegalStateException.class, x -> texts(x, 30), x -> x.learn(0));
+        Check.answered("text 30", 29, x -> Check.texts(x, 29), x -> x.teach(1));
+        Check.answered("text 30, learned", 2, x -> Check.texts(x, 29), x -> x.learn(0));
+        Check.refused("text 31", IllegalStateException.class, x -> Check.texts(x, 30), x -> x.teach(1));
+        Check.refused("text 31, learned", IllegalStateException.class, x -> Check.texts(x, 30), x -> x.learn(0));
         for (int gone : new int[] {0, 13, 29}) {
             Check.answered("text 31 with " + gone + " withdrawn", 30, x -> {
-                texts(x, 30);
+                Check.texts(x, 30);
                 x.withdraw(gone);
             }, x -> x.teach(1));
             Check.refused("text 32 with " + gone + " withdrawn", IllegalStateException.class, x -> {
-                texts(x, 30);
+                Check.texts(x, 30);
                 x.withdraw(gone);
                 x.teach(1);
             }, x -> x.teach(0));
@@ -306,7 +299,8 @@ public final class TermsEdgesTest {
     }
 
     private static void leastAndGreatestCost() {
-        Check.sentence("the least whole number k, 0 or more [...] the number of all runs taught to the tongue and 36, together");
+        Check.sentence("the least whole number k, 0 or more [...] the number of all runs taught to the tongue"
+            + " and 36, together");
         for (int run : new int[] {0, 1, 35}) {
             Check.answered("an empty tongue, run " + run, 6, x -> x.addTongue(), x -> x.cost(0, run));
         }
@@ -417,7 +411,8 @@ public final class TermsEdgesTest {
     }
 
     private static void differenceWithoutItsSign() {
-        Check.sentence("the difference of the rank among the runs of the text and the rank in the tongue, without its sign");
+        Check.sentence("the difference of the rank among the runs of the text and the rank in the tongue,"
+            + " without its sign");
         Tonguetell x = new Tonguetell();
         x.addTongue();
         Check.teach(x, 0, "a");
@@ -437,7 +432,8 @@ public final class TermsEdgesTest {
     }
 
     private static void priceForEachRunButTheFirst() {
-        Check.sentence("and a price, 4 at first, for each run but the first one that has another tongue than the run before it");
+        Check.sentence("and a price, 4 at first, for each run but the first one that has another tongue than"
+            + " the run before it");
         Tonguetell x = new Tonguetell();
         aaaaAndBbbb(x);
         Check.spell(x, "bbbb");
@@ -476,7 +472,8 @@ public final class TermsEdgesTest {
     }
 
     private static void severalCutsOfLeastCost() {
-        Check.sentence("of several the one that gives the first run for which they differ the tongue with the lower number");
+        Check.sentence("of several the one that gives the first run for which they differ the tongue with the"
+            + " lower number");
         Tonguetell x = new Tonguetell();
         aaaaAndBbbb(x);
         // Of 37 there are at a price of 5: all in 0, all in 1, and the one with a change.
@@ -514,8 +511,8 @@ public final class TermsEdgesTest {
         Check.refused("teach: an empty text alone", IllegalStateException.class,
             TermsEdgesTest::withOneTongue, x -> x.teach(0));
         Check.refused("teach: no such tongue, and 30 texts", IndexOutOfBoundsException.class,
-            x -> texts(x, 30), x -> x.teach(2));
-        Check.refused("teach: 30 texts alone", IllegalStateException.class, x -> texts(x, 30), x -> x.teach(1));
+            x -> Check.texts(x, 30), x -> x.teach(2));
+        Check.refused("teach: 30 texts alone", IllegalStateException.class, x -> Check.texts(x, 30), x -> x.teach(1));
         Check.refused("cutTongue: no tongues, and no such run", IllegalStateException.class,
             TermsEdgesTest::sixteenLetters, x -> x.cutTongue(17));
         Check.refused("cutTongue: no such run alone", IndexOutOfBoundsException.class, x -> {
@@ -527,8 +524,8 @@ public final class TermsEdgesTest {
         Check.refused("learn: 5 tongues alone", IllegalStateException.class,
             x -> Check.addTongues(x, 5), x -> x.learn(20));
         Check.refused("learn: out of range, and 30 texts", IllegalArgumentException.class,
-            x -> texts(x, 30), x -> x.learn(-1));
-        Check.refused("learn: 30 texts alone", IllegalStateException.class, x -> texts(x, 30), x -> x.learn(0));
+            x -> Check.texts(x, 30), x -> x.learn(-1));
+        Check.refused("learn: 30 texts alone", IllegalStateException.class, x -> Check.texts(x, 30), x -> x.learn(0));
     }
 
     private static void fullObject(Tonguetell x) {

@@ -40,7 +40,8 @@ public final class TonguesEdgesTest {
         }
         Check.refused("a sixth", IllegalStateException.class, x -> Check.addTongues(x, 5), x -> x.addTongue());
         Check.answered("the fifth, one of four learned", 4, x -> learnedAnd(x, 3), x -> x.addTongue());
-        Check.refused("a sixth, one of five learned", IllegalStateException.class, x -> learnedAnd(x, 4), x -> x.addTongue());
+        Check.refused("a sixth, one of five learned", IllegalStateException.class,
+            x -> learnedAnd(x, 4), x -> x.addTongue());
         Check.refused("a sixth, all texts withdrawn", IllegalStateException.class, x -> {
             learnedAnd(x, 4);
             x.withdraw(0);
@@ -70,24 +71,23 @@ public final class TonguesEdgesTest {
         Check.answered("five, one of them learned", 5, x -> learnedAnd(x, 4), x -> x.tongues());
     }
 
-    private static void tonguesAndText(Tonguetell x, int tongues) {
-        Check.addTongues(x, tongues);
-        Check.spell(x, "abc");
-    }
-
     private static void teachNoSuchTongue() {
         Check.sentence("8: Throws IndexOutOfBoundsException if there is no such tongue");
-        Check.refused("no tongues", IndexOutOfBoundsException.class, x -> tonguesAndText(x, 0), x -> x.teach(0));
-        Check.answered("the only one", 0, x -> tonguesAndText(x, 1), x -> x.teach(0));
-        Check.refused("behind the only one", IndexOutOfBoundsException.class, x -> tonguesAndText(x, 1), x -> x.teach(1));
-        Check.answered("the fifth", 0, x -> tonguesAndText(x, 5), x -> x.teach(4));
-        Check.refused("behind the fifth", IndexOutOfBoundsException.class, x -> tonguesAndText(x, 5), x -> x.teach(5));
+        Check.refused("no tongues", IndexOutOfBoundsException.class,
+            x -> Check.tonguesAndText(x, 0, "abc"), x -> x.teach(0));
+        Check.answered("the only one", 0, x -> Check.tonguesAndText(x, 1, "abc"), x -> x.teach(0));
+        Check.refused("behind the only one", IndexOutOfBoundsException.class,
+            x -> Check.tonguesAndText(x, 1, "abc"), x -> x.teach(1));
+        Check.answered("the fifth", 0, x -> Check.tonguesAndText(x, 5, "abc"), x -> x.teach(4));
+        Check.refused("behind the fifth", IndexOutOfBoundsException.class,
+            x -> Check.tonguesAndText(x, 5, "abc"), x -> x.teach(5));
         for (int far : FAR) {
-            Check.refused("tongue " + far, IndexOutOfBoundsException.class, x -> tonguesAndText(x, 5), x -> x.teach(far));
+            Check.refused("tongue " + far, IndexOutOfBoundsException.class,
+                x -> Check.tonguesAndText(x, 5, "abc"), x -> x.teach(far));
             Check.refused("tongue " + far + ", an empty text", IndexOutOfBoundsException.class,
                 x -> Check.addTongues(x, 5), x -> x.teach(far));
             Check.refused("tongue " + far + ", 30 texts", IndexOutOfBoundsException.class,
-                x -> texts(x, 30), x -> x.teach(far));
+                x -> Check.texts(x, 30), x -> x.teach(far));
         }
     }
 
@@ -99,40 +99,32 @@ public final class TonguesEdgesTest {
             x.spell(' ');
         }, x -> x.teach(0));
         Check.refused("no letter behind a text", IllegalStateException.class, x -> {
-            texts(x, 1);
+            Check.texts(x, 1);
             x.clearSpelled();
         }, x -> x.teach(0));
         Check.refused("no letter and 30 texts", IllegalStateException.class, x -> {
-            texts(x, 30);
+            Check.texts(x, 30);
             x.clearSpelled();
         }, x -> x.teach(0));
-    }
-
-    private static void texts(Tonguetell x, int number) {
-        Check.addTongues(x, 2);
-        Check.spell(x, "abc");
-        for (int text = 0; text < number; text++) {
-            x.teach(text % 2);
-        }
     }
 
     private static void teachThirtyTexts() {
         Check.sentence("8: or 30 texts are taught and not withdrawn");
-        Check.answered("text 30", 29, x -> texts(x, 29), x -> x.teach(0));
-        Check.refused("text 31", IllegalStateException.class, x -> texts(x, 30), x -> x.teach(0));
+        Check.answered("text 30", 29, x -> Check.texts(x, 29), x -> x.teach(0));
+        Check.refused("text 31", IllegalStateException.class, x -> Check.texts(x, 30), x -> x.teach(0));
         for (int gone : new int[] {0, 7, 29}) {
             Check.answered("text 31 instead of " + gone, 30, x -> {
-                texts(x, 30);
+                Check.texts(x, 30);
                 x.withdraw(gone);
             }, x -> x.teach(1));
             Check.refused("text 32 instead of " + gone, IllegalStateException.class, x -> {
-                texts(x, 30);
+                Check.texts(x, 30);
                 x.withdraw(gone);
                 x.teach(1);
             }, x -> x.teach(1));
         }
         Tonguetell x = new Tonguetell();
-        texts(x, 30);
+        Check.texts(x, 30);
         for (int text = 30; text < 90; text++) {
             x.withdraw(text - 30);
             Check.due("in the place of the oldest", x.teach(0), text);
@@ -199,7 +191,7 @@ public final class TonguesEdgesTest {
             x.withdraw(0);
             x.withdraw(1);
         }, call, -1);
-        textRefused("behind 30", x -> texts(x, 30), call, 30);
+        textRefused("behind 30", x -> Check.texts(x, 30), call, 30);
     }
 
     private static void textRefused(String what, Check.Script before, OfText call, int text) {

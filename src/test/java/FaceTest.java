@@ -12,6 +12,7 @@ import java.util.HashSet;
 import java.util.List;
 import java.util.Set;
 import java.util.TreeSet;
+import java.util.regex.Matcher;
 import java.util.regex.Pattern;
 
 /** The public face with its constant, and the rules of LANGUAGE.md that can be seen from outside or word by word. */
@@ -43,14 +44,33 @@ public final class FaceTest {
         "int learn(int) IllegalArgumentException IllegalStateException",
     };
 
+    /** The calls ahead of which the document says that the interface has these words. */
+    private static final String[][] HEADS = {
+        {"---- the spelled text", "spell", "clearSpelled", "runs", "runAt"},
+        {"---- tongues", "addTongue", "tongues", "teach", "withdraw", "tongueOf", "total", "count", "cost", "rank"},
+        {"---- telling", "textCost", "distance", "setMargin", "tell", "tellByRanks"},
+        {"---- cuts", "setPrice", "cutCost", "cutCostByTrying", "cutTongue", "stretches"},
+        {"---- newcomers", "learn"},
+    };
+
+    private static final String EXCEPTIONS =
+        "(IllegalStateException|IllegalArgumentException|IndexOutOfBoundsException|NoSuchElementException)";
+    private static final int LONGEST_METHOD = 60;
+    private static final int MOST_FIELDS = 20;
+
     public static void main(String[] args) throws IOException {
+        String source = Files.readString(Path.of("src/main/java/Tonguetell.java"), StandardCharsets.ISO_8859_1);
         constant();
         classItself();
         methods();
         innerClasses();
-        if (args.length > 0) {
-            words(Files.readString(Path.of(args[0]), StandardCharsets.ISO_8859_1));
-        }
+        heads(source);
+        Check.holds("rule 3: signs 1 to 127", source.chars().allMatch(sign -> sign > 0 && sign < 128));
+        String bare = withoutCommentsAndTexts(source);
+        words(bare);
+        names(bare);
+        throwing(bare);
+        lengths(bare);
         Check.end();
     }
 
@@ -61,13 +81,7 @@ public final class FaceTest {
             int due = isNone ? Modifier.PUBLIC | Modifier.STATIC | Modifier.FINAL : Modifier.PRIVATE;
             int seen = Modifier.PUBLIC | Modifier.PROTECTED | Modifier.PRIVATE;
             Check.due("face: field " + field.getName(), field.getModifiers() & (isNone ? ~0 : seen), due);
-            staticIsFinal(field);
         }
-    }
-
-    private static void staticIsFinal(Field field) {
-        int modifiers = field.getModifiers();
-        Check.holds("rule 5: " + field, !Modifier.isStatic(modifiers) || Modifier.isFinal(modifiers));
     }
 
     private static void classItself() {
@@ -119,31 +133,113 @@ public final class FaceTest {
     private static void innerClasses() {
         Class<?>[] classes = Tonguetell.class.getDeclaredClasses();
         Check.holds("rule 11: some twelve classes", classes.length <= 12);
+        fields(Tonguetell.class);
         for (Class<?> inner : classes) {
             int modifiers = inner.getModifiers();
             Check.holds("rule 1: " + inner, !Modifier.isPublic(modifiers) && !Modifier.isProtected(modifiers));
             Check.holds("rule 1: " + inner, Modifier.isStatic(modifiers));
-            for (Field field : inner.getDeclaredFields()) {
-                staticIsFinal(field);
+            fields(inner);
+            for (Method method : inner.getDeclaredMethods()) {
+                Check.holds("rule 11: " + method, method.getParameterCount() <= 7);
+                Check.holds("rule 6: " + method, method.getExceptionTypes().length == 0);
             }
         }
     }
 
-    private static void words(String source) {
-        Check.holds("rule 3: signs 1 to 127", source.chars().allMatch(sign -> sign > 0 && sign < 128));
-        String bare = source.replaceAll("(?s)/\\*.*?\\*/", "").replaceAll("//[^\n]*", "")
+    private static void fields(Class<?> owner) {
+        int own = 0;
+        for (Field field : owner.getDeclaredFields()) {
+            boolean isStatic = Modifier.isStatic(field.getModifiers());
+            Check.holds("rule 5: " + field, !isStatic || Modifier.isFinal(field.getModifiers()));
+            Check.holds("rule 3: " + field, isOfTheRules(field.getType()));
+            own += isStatic ? 0 : 1;
+        }
+        Check.holds("rule 11: some twenty fields in " + owner, own <= MOST_FIELDS);
+    }
+
+    /** Numbers, the class's own classes, and arrays of them: of two dimensions those of numbers alone. */
+    private static boolean isOfTheRules(Class<?> type) {
+        if (!type.isArray()) {
+            return type.isPrimitive() || type.getNestHost() == Tonguetell.class;
+        }
+        Class<?> inside = type.getComponentType();
+        return inside.isArray() ? inside.getComponentType().isPrimitive() : isOfTheRules(inside);
+    }
+
+    private static void heads(String source) {
+        int from = 0;
+        for (String[] group : HEADS) {
+            from = behind("    // " + group[0] + "\n\n    public int " + group[1] + "(", from, source);
+            for (int call = 2; call < group.length; call++) {
+                from = behind("\n    public int " + group[call] + "(", from, source);
+            }
+        }
+    }
+
+    private static int behind(String words, int from, String source) {
+        int found = source.indexOf(words, from);
+        Check.holds("the interface: " + words.strip() + " in the document's order", found >= 0);
+        return found < 0 ? from : found + words.length();
+    }
+
+    private static String withoutCommentsAndTexts(String source) {
+        return source.replaceAll("(?s)/\\*.*?\\*/", "").replaceAll("//[^\n]*", "")
             .replaceAll("\"[^\"\n]*\"", "\"\"").replaceAll("'[^'\n]*'", "' '");
+    }
+
+    private static boolean has(String bare, String pattern) {
+        return Pattern.compile(pattern).matcher(bare).find();
+    }
+
+    // Some of these words LANGUAGE.md would take. Without a catch, nothing that the machine throws is caught.
+    private static void words(String bare) {
         for (String word : new String[] {"->", "::"}) {
-            Check.holds("the words of LANGUAGE.md: " + word, !bare.contains(word));
+            Check.holds("rule 2: without " + word, !bare.contains(word));
         }
         for (String word : new String[] {"package", "catch", "try", "finally", "synchronized", "assert", "instanceof",
-            "double", "float", "volatile", "transient", "native", "strictfp", "yield"}) {
-            Check.holds("rules of LANGUAGE.md: " + word, !Pattern.compile("\\b" + word + "\\b").matcher(bare).find());
+            "double", "float", "volatile", "transient", "native", "strictfp"}) {
+            Check.holds("that the program does without " + word, !has(bare, "\\b" + word + "\\b"));
         }
-        Check.holds("rule 5: no static block", !Pattern.compile("\\bstatic\\s*\\{").matcher(bare).find());
-        Check.holds("rule 4: no other import", bare.replace("import java.util.NoSuchElementException;", "").indexOf("import") < 0);
-        Check.holds("rule 4: of the library's static names only these",
-            !Pattern.compile("\\b(Integer|Long|Character|String|System|Arrays|Objects|Math)\\s*\\.").matcher(
-                bare.replaceAll("\\bMath\\.(abs|min|max)\\(", "")).find());
+        Check.holds("rule 5: no static block", !has(bare, "\\bstatic\\s*\\{"));
+        Check.holds("rule 10: no text is joined by +", !has(bare, "\"\\s*\\+|\\+\\s*\""));
+    }
+
+    /** Every name that begins like a class's is the class itself, one inside it, an exception of the face, or Math. */
+    private static void names(String bare) {
+        Check.holds("rule 4: no other import",
+            !has(bare.replace("import java.util.NoSuchElementException;", ""), "\\bimport\\b|\\bjava\\."));
+        Set<String> due = new TreeSet<>(Arrays.asList("Tonguetell", "Math"));
+        for (Class<?> inner : Tonguetell.class.getDeclaredClasses()) {
+            due.add(inner.getSimpleName());
+        }
+        Matcher name = Pattern.compile("\\b[A-Z][A-Za-z0-9]*[a-z][A-Za-z0-9]*\\b").matcher(bare);
+        while (name.find()) {
+            Check.holds("rule 4: " + name.group(), due.contains(name.group()) || name.group().matches(EXCEPTIONS));
+        }
+        Check.holds("rule 4: of Math only these", !has(bare.replaceAll("\\bMath\\.(abs|min|max)\\(", ""), "\\bMath\\b"));
+    }
+
+    private static void throwing(String bare) {
+        String proper = "\\bthrow new " + EXCEPTIONS + "\\(\"\"\\);";
+        Check.holds("rule 6: nothing else is thrown", !has(bare.replaceAll(proper, ""), "\\bthrow\\b"));
+        Matcher constructor = Pattern.compile("(?m)^( +)(public )?[A-Z]\\w*\\([^)]*\\) \\{\\n(?s:.*?)^\\1\\}").matcher(bare);
+        int constructors = 0;
+        while (constructor.find()) {
+            constructors++;
+            Check.holds("rule 6: no throw in a constructor", !constructor.group().contains("throw"));
+        }
+        Check.holds("that constructors were looked at", constructors > 0);
+    }
+
+    private static void lengths(String bare) {
+        Matcher method = Pattern.compile("(?m)^( {4}| {8})(?!\\S*class)\\S.*\\) ?.*\\{\\n(?s:.*?)^\\1\\}").matcher(bare);
+        int methods = 0;
+        while (method.find()) {
+            methods++;
+            String text = method.group();
+            String head = text.substring(0, text.indexOf('\n')).strip();
+            Check.holds("rule 11: short: " + head, text.lines().count() <= LONGEST_METHOD);
+        }
+        Check.holds("that methods were looked at", methods >= FACE.length);
     }
 }

@@ -49,20 +49,20 @@ public final class LearnTest {
         Check.sameState("25: learn of no stretch", none, same);
     }
 
-    private static void whatIsTaught() {
+    /** Runs 1, 7 and 6 cost 4 in tongue 0, all others 6. */
+    private static Tonguetell taughtAaTwice(String text) {
         Tonguetell x = new Tonguetell();
         x.addTongue();
         Check.teach(x, 0, "aa");
         Check.teach(x, 0, "aa");
-        // 1, 7, 6 twice each, 42 in all: 4 each, all others 6
-        Check.spell(x, "aabcaa");
-        // 1 7 8 15 19 7 6
-        Check.due("25: a stretch inside", x.learn(6), 1);
-        Check.due("25: its runs", x.total(1), 3);
-        Check.due("25: run 8", x.count(1, 8), 1);
-        Check.due("25: run 15", x.count(1, 15), 1);
-        Check.due("25: run 19", x.count(1, 19), 1);
-        Check.due("25: run 7", x.count(1, 7), 0);
+        Check.spell(x, text);
+        return x;
+    }
+
+    private static void whatIsTaught() {
+        Tonguetell x = taughtAaTwice("aabcaa");
+        // 1 7 | 8 15 19 | 7 6
+        learnedDue("a stretch inside", x, 8, 15, 19);
         Check.due("25: the number of the text", x.tongueOf(2), 1);
         Check.due("25: the other tongue", x.total(0), 6);
         Check.due("25: the next text", x.teach(0), 3);
@@ -70,45 +70,24 @@ public final class LearnTest {
         Check.due("25: without runs", x.total(1), 0);
     }
 
+    /** The runs are unlike ones, and no others are in the new tongue. */
+    private static void learnedDue(String what, Tonguetell x, int... runs) {
+        Check.due("25: " + what, x.learn(6), 1);
+        Check.due("25: runs of " + what, x.total(1), runs.length);
+        for (int run : runs) {
+            Check.due("25: run " + run + " of " + what, x.count(1, run), 1);
+        }
+    }
+
     private static void theLongestAndTheFirst() {
-        Tonguetell x = new Tonguetell();
-        x.addTongue();
-        Check.teach(x, 0, "aa");
-        Check.teach(x, 0, "aa");
-        Check.spell(x, "bcaadeaaccd");
         // 2 15 19 | 7 | 10 29 31 | 7 | 9 21 22 24
-        Check.due("25: the longest at the end", x.learn(6), 1);
-        Check.due("25: four runs", x.total(1), 4);
-        Check.due("25: the last one", x.count(1, 24), 1);
-        Check.due("25: not the first one", x.count(1, 2), 0);
-
-        Tonguetell y = new Tonguetell();
-        y.addTongue();
-        Check.teach(y, 0, "aa");
-        Check.teach(y, 0, "aa");
-        Check.spell(y, "bcaadeaacc");
+        learnedDue("the longest at the end", taughtAaTwice("bcaadeaaccd"), 9, 21, 22, 24);
         // 2 15 19 | 7 | 10 29 31 | 7 | 9 21 18
-        Check.due("25: the first of three", y.learn(6), 1);
-        Check.due("25: three runs", y.total(1), 3);
-        Check.due("25: of the first", y.count(1, 2), 1);
-        Check.due("25: of the first", y.count(1, 19), 1);
+        learnedDue("the first of three", taughtAaTwice("bcaadeaacc"), 2, 15, 19);
+        // 1 7 | 8 13 | 7 | 8 15 20 12
+        learnedDue("the longest behind a shorter one", taughtAaTwice("aabaabcb"), 8, 15, 20, 12);
 
-        Tonguetell z = new Tonguetell();
-        z.addTongue();
-        Check.teach(z, 0, "aa");
-        Check.teach(z, 0, "aa");
-        Check.spell(z, "aabaabcb");
-        // 1 | 7 | 8 13 | 7 | 8 15 20 12
-        Check.due("25: a shorter one ahead", z.learn(6), 1);
-        Check.due("25: four runs", z.total(1), 4);
-        Check.due("25: of the longer", z.count(1, 12), 1);
-        Check.due("25: not of the shorter", z.count(1, 13), 0);
-
-        Tonguetell two = new Tonguetell();
-        two.addTongue();
-        Check.teach(two, 0, "aa");
-        Check.teach(two, 0, "aa");
-        Check.spell(two, "baabaab");
+        Tonguetell two = taughtAaTwice("baabaab");
         // 2 13 | 7 | 8 13 | 7 | 8 12
         Check.due("25: stretches of two", two.learn(6), NONE);
         Check.due("25: no tongue", two.tongues(), 1);

@@ -6,6 +6,7 @@ public final class SpellingTest {
         clearSpelled();
         runs();
         runAt();
+        allRuns();
         Check.end();
     }
 
@@ -73,6 +74,18 @@ public final class SpellingTest {
         runsDue("a e", 1, 6, 5, 30);
         runsDue("edcba", 5, 34, 27, 20, 13, 6);
         runsDue("ee  eebbccddaaee", 5, 35, 30, 0, 5, 35, 32, 14, 15, 21, 22, 28, 25, 7, 11, 35, 30);
+    }
+
+    private static void allRuns() {
+        String letters = " abcde";
+        for (int first = 0; first < 6; first++) {
+            for (int second = 0; second < 6; second++) {
+                Tonguetell x = new Tonguetell();
+                x.spell(letters.charAt(first));
+                x.spell(letters.charAt(second));
+                Check.due("5: the run of letters " + first + " and " + second, x.runAt(1), 6 * first + second);
+            }
+        }
     }
 
     private static void runsDue(String text, int... want) {

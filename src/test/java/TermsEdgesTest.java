@@ -92,8 +92,6 @@ public final class TermsEdgesTest {
         }
         x.withdraw(250);
         Check.due("call 512: the most texts that can be taught", x.teach(0), 269);
-        // What it answers is free: it only has to come back.
-        Check.answerOf(x, y -> y.withdraw(269));
     }
 
     private static void upToSixteenLetters() {
